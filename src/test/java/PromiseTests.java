@@ -1,0 +1,406 @@
+import java.lang.reflect.Constructor;
+import java.lang.reflect.Field;
+import java.lang.reflect.Method;
+import java.lang.reflect.Modifier;
+import java.util.Arrays;
+import java.util.Set;
+import java.util.TreeSet;
+
+/** For each promise of the document: ordinary inputs, the edges that it names, and wrong inputs. */
+public final class PromiseTests {
+    private static final int PLAIN = 0;
+    private static final int PACKED = 1;
+    private static final int LIST = 2;
+    private static final int RUNS = 3;
+    private static final int STEPS = 4;
+    private static final String ARGUMENT = "IllegalArgumentException";
+    private static final String STATE = "IllegalStateException";
+
+    private static int wrong = 0;
+
+    private interface Call {
+        long answer();
+    }
+
+    private static void due(String what, long got, long want) {
+        if (got != want) {
+            wrong++;
+            System.out.println(what + ": answered " + got + ", due is " + want);
+        }
+    }
+
+    private static void dueText(String what, String got, String want) {
+        if (!got.equals(want)) {
+            wrong++;
+            System.out.println(what + ": answered " + got + ", due is " + want);
+        }
+    }
+
+    private static void refused(String what, String exception, Call call) {
+        String got;
+        try {
+            got = "" + call.answer();
+        } catch (RuntimeException e) {
+            got = e.getClass().getSimpleName();
+        }
+        dueText(what, got, exception);
+    }
+
+    private static ColumnForms rowOf(long... cells) {
+        ColumnForms x = new ColumnForms();
+        for (long v : cells) {
+            x.put(v);
+        }
+        return x;
+    }
+
+    private static ColumnForms columnOf(int form, long... cells) {
+        ColumnForms x = rowOf(cells);
+        x.writeAs(form);
+        return x;
+    }
+
+    private static String hex(ColumnForms x) {
+        StringBuilder text = new StringBuilder();
+        for (int i = 0; i < x.size(); i++) {
+            text.append(String.format("%02x", x.byteAt(i)));
+        }
+        return text.toString();
+    }
+
+    /** The cells that a row holds, seen through a plain column. */
+    private static void rowIs(String what, ColumnForms x, long... cells) {
+        due(what + ", bytes", x.writeAs(PLAIN), 8L * cells.length);
+        for (int i = 0; i < cells.length; i++) {
+            due(what + ", cell " + i, x.cell(i), cells[i]);
+        }
+    }
+
+    public static void main(String[] args) {
+        face();
+        newObject();
+        put();
+        fill();
+        clear();
+        weight();
+        write();
+        writeAs();
+        bytesOfEachForm();
+        formAndSize();
+        byteAt();
+        cell();
+        count();
+        sum();
+        throwingChangesNothing();
+        if (wrong > 0) {
+            System.out.println(wrong + " wrong answers");
+            System.exit(1);
+        }
+    }
+
+    private static void face() {
+        Set<String> seen = new TreeSet<>();
+        for (Method m : ColumnForms.class.getDeclaredMethods()) {
+            if (!Modifier.isPrivate(m.getModifiers())) {
+                seen.add(Modifier.toString(m.getModifiers()) + " " + m.getReturnType() + " " + m.getName()
+                        + Arrays.toString(m.getParameterTypes()));
+            }
+        }
+        Set<String> wanted = new TreeSet<>(Arrays.asList("public int put[long]", "public int fill[long, long, int]",
+                "public int clear[]", "public int weight[int]", "public int write[]", "public int writeAs[int]",
+                "public int form[]", "public int size[]", "public int byteAt[int]", "public long cell[int]",
+                "public int count[int, long]", "public long sum[long, long]"));
+        dueText("methods", seen.toString(), wanted.toString());
+        for (Field f : ColumnForms.class.getDeclaredFields()) {
+            boolean open = !Modifier.isPrivate(f.getModifiers());
+            due("field " + f.getName() + " is open", open ? 1 : 0, f.getName().equals("NONE") ? 1 : 0);
+        }
+        Constructor<?>[] made = ColumnForms.class.getDeclaredConstructors();
+        due("constructors", made.length, 1);
+        due("parameters of the constructor", made[0].getParameterCount(), 0);
+        dueText("the class", Modifier.toString(ColumnForms.class.getModifiers()), "public final");
+        due("NONE", ColumnForms.NONE, -1);
+    }
+
+    private static void newObject() {
+        ColumnForms x = new ColumnForms();
+        due("1 form", x.form(), -1);
+        due("1 size", x.size(), 0);
+        refused("1 byteAt", ARGUMENT, () -> x.byteAt(0));
+        refused("1 cell", ARGUMENT, () -> x.cell(0));
+        refused("1 count", STATE, () -> x.count(0, 0));
+        refused("1 sum", STATE, () -> x.sum(0, 0));
+        refused("1 write", STATE, () -> x.write());
+        due("1 clear", x.clear(), 0);
+    }
+
+    private static void put() {
+        ColumnForms x = new ColumnForms();
+        for (int i = 1; i <= 1024; i++) {
+            due("2 put", x.put(i * 3L), i);
+        }
+        refused("2 put into a full row", STATE, () -> x.put(0));
+        due("2 clear of a full row", x.clear(), 1024);
+        due("2 put behind clear", x.put(7), 1);
+        rowIs("2", rowOf(Long.MAX_VALUE, -1, 0, Long.MIN_VALUE), Long.MAX_VALUE, -1, 0, Long.MIN_VALUE);
+    }
+
+    private static void fill() {
+        ColumnForms x = new ColumnForms();
+        due("3 fill", x.fill(10, -4, 3), 3);
+        due("3 fill of one", x.fill(1, 99, 1), 4);
+        due("3 fill that wraps", x.fill(Long.MAX_VALUE, 1, 2), 6);
+        rowIs("3", x, 10, 6, 2, 1, Long.MAX_VALUE, Long.MIN_VALUE);
+        refused("3 n 0", ARGUMENT, () -> x.fill(1, 1, 0));
+        refused("3 n -1", ARGUMENT, () -> x.fill(1, 1, -1));
+        refused("3 n 1025", ARGUMENT, () -> x.fill(1, 1, 1025));
+        refused("3 n least", ARGUMENT, () -> x.fill(1, 1, Integer.MIN_VALUE));
+        refused("3 n greatest", ARGUMENT, () -> x.fill(1, 1, Integer.MAX_VALUE));
+        refused("3 one too many", STATE, () -> x.fill(1, 1, 1019));
+        due("3 up to full", x.fill(1, 1, 1018), 1024);
+        refused("3 full", STATE, () -> x.fill(1, 1, 1));
+        refused("3 full and n 0", ARGUMENT, () -> x.fill(1, 1, 0));
+        due("3 1024 at once", new ColumnForms().fill(0, 0, 1024), 1024);
+    }
+
+    private static void clear() {
+        ColumnForms x = columnOf(PACKED, 4, 9, 4);
+        due("4 clear", x.clear(), 3);
+        due("4 clear again", x.clear(), 0);
+        due("4 the column's form stays", x.form(), PACKED);
+        due("4 the column's cells stay", x.cell(1), 9);
+        refused("4 the row is empty", STATE, () -> x.weight(0));
+        x.put(4);
+        x.put(5);
+        due("4 nothing of the earlier row weighs, packed", x.weight(PACKED), 10);
+        due("4 nothing of the earlier row weighs, list", x.weight(LIST), 19);
+        due("4 nothing of the earlier row weighs, runs", x.weight(RUNS), 22);
+        due("4 nothing of the earlier row weighs, steps", x.weight(STEPS), 17);
+    }
+
+    private static void weighs(String what, ColumnForms x, int... weights) {
+        for (int form = 0; form < 5; form++) {
+            due("5 " + what + " in form " + form, x.weight(form), weights[form]);
+        }
+    }
+
+    private static void weight() {
+        weighs("one cell", rowOf(77), 8, 9, 10, 12, 17);
+        weighs("two the same", rowOf(-3, -3), 16, 9, 10, 12, 17);
+        weighs("extremes", rowOf(Long.MIN_VALUE, Long.MAX_VALUE), 16, 25, 19, 22, 17);
+        weighs("a step that wraps", rowOf(Long.MAX_VALUE, Long.MIN_VALUE, 0), 24, 33, 27, 32, 33);
+        weighs("bits that fill a byte", rowOf(0, 1, 0, 1, 0, 1, 0, 1), 64, 10, 19, 82, 19);
+        weighs("bits beyond a byte", rowOf(0, 1, 0, 1, 0, 1, 0, 1, 0), 72, 11, 20, 92, 19);
+        weighs("steps beyond a byte", rowOf(0, 1, 0, 1, 0, 1, 0, 1, 0, 1), 80, 11, 20, 102, 20);
+        weighs("four different", rowOf(1, 2, 3, 4), 32, 10, 35, 42, 17);
+        weighs("five different", rowOf(1, 2, 3, 4, 5), 40, 11, 44, 52, 17);
+        ColumnForms full = new ColumnForms();
+        full.fill(0, 1, 1024);
+        weighs("1024 different", full, 8192, 1289, 9474, 10242, 17);
+        ColumnForms x = rowOf(1);
+        refused("5 form 5", ARGUMENT, () -> x.weight(5));
+        refused("5 form -1", ARGUMENT, () -> x.weight(-1));
+        refused("5 form greatest", ARGUMENT, () -> x.weight(Integer.MAX_VALUE));
+        x.clear();
+        refused("5 empty", STATE, () -> x.weight(4));
+        refused("5 empty and form 5", ARGUMENT, () -> x.weight(5));
+    }
+
+    private static void writes(String what, ColumnForms x, int form, int bytes) {
+        due("6 " + what + ", bytes", x.write(), bytes);
+        due("6 " + what + ", form", x.form(), form);
+        due("6 " + what + ", size", x.size(), bytes);
+    }
+
+    private static ColumnForms twoBlocks(long first, long second, int n) {
+        ColumnForms x = new ColumnForms();
+        x.fill(first, 0, n);
+        x.fill(second, 0, n);
+        return x;
+    }
+
+    private static void write() {
+        long big = 1L << 60;
+        writes("plain", rowOf(5), PLAIN, 8);
+        writes("packed", rowOf(5, 5, 5, 9), PACKED, 11);
+        writes("list", rowOf(0, big, 0, big, 0, big), LIST, 19);
+        writes("runs", twoBlocks(0, big, 500), RUNS, 22);
+        ColumnForms rising = new ColumnForms();
+        rising.fill(0, 1000, 100);
+        writes("steps", rising, STEPS, 17);
+        due("6 the row stays", rising.put(1), 101);
+        writes("plain and packed alike", rowOf(0, 1 << 27), PLAIN, 16);
+        writes("packed and list alike", rowOf(0, 1000, 0, 1000, 0, 1000, 0, 1000), PACKED, 19);
+        writes("packed and steps alike", rowOf(0, 700000, 1400000), PACKED, 17);
+        writes("list and runs alike", twoBlocks(0, big, 16), LIST, 22);
+        writes("the row with one cell more", rising, PACKED, 224);
+        ColumnForms x = columnOf(PLAIN, 1);
+        x.clear();
+        refused("6 empty", STATE, () -> x.write());
+        due("6 the column is as it was", x.form(), PLAIN);
+    }
+
+    private static void writeAs() {
+        ColumnForms x = rowOf(5, 5, 5, 9);
+        int[] weights = {32, 11, 19, 22, 19};
+        for (int form = 4; form >= 0; form--) {
+            due("7 writeAs " + form, x.writeAs(form), weights[form]);
+            due("7 form behind writeAs " + form, x.form(), form);
+            due("7 size behind writeAs " + form, x.size(), weights[form]);
+        }
+        due("7 the row stays", x.put(1), 5);
+        refused("7 form 5", ARGUMENT, () -> x.writeAs(5));
+        refused("7 form -1", ARGUMENT, () -> x.writeAs(-1));
+        x.clear();
+        refused("7 empty", STATE, () -> x.writeAs(0));
+        refused("7 empty and form 5", ARGUMENT, () -> x.writeAs(5));
+        due("7 the column is as it was", x.size(), 32);
+    }
+
+    private static void bytesAre(int form, String want, long... cells) {
+        dueText("bytes in form " + form + " of " + Arrays.toString(cells), hex(columnOf(form, cells)), want.replace(" ", ""));
+    }
+
+    private static void bytesOfEachForm() {
+        bytesAre(PLAIN, "0000000000000005 0000000000000005 0000000000000005 0000000000000009", 5, 5, 5, 9);
+        bytesAre(PACKED, "0000000000000005 03 0040", 5, 5, 5, 9);
+        bytesAre(LIST, "0002 0000000000000005 0000000000000009 10", 5, 5, 5, 9);
+        bytesAre(RUNS, "0002 0000000000000005 0003 0000000000000009 0001", 5, 5, 5, 9);
+        bytesAre(STEPS, "0000000000000005 0000000000000000 03 0200", 5, 5, 5, 9);
+
+        bytesAre(PLAIN, "0123456789abcdef fffffffffffffffe", 0x0123456789abcdefL, -2);
+        bytesAre(PACKED, "8000000000000000 40 0000000000000000 ffffffffffffffff", Long.MIN_VALUE, Long.MAX_VALUE);
+        bytesAre(PACKED, "0000000000000000 3f 0000000000000001 0000000000000000", 0, 1L << 62);
+        bytesAre(PACKED, "fffffffffffffffd 00", -3, -3, -3);
+        bytesAre(LIST, "0003 0000000000000009 0000000000000005 0000000000000007 1840", 9, 5, 7, 9, 5);
+        bytesAre(LIST, "0001 ffffffffffffffff", -1, -1, -1);
+        bytesAre(RUNS, "0003 0000000000000001 0002 0000000000000002 0001 0000000000000001 0001", 1, 1, 2, 1);
+        bytesAre(STEPS, "0000000000000003 fffffffffffffffe 02 30", 3, 1, 2);
+        bytesAre(STEPS, "7fffffffffffffff 8000000000000000 40 8000000000000001 0000000000000000",
+                Long.MAX_VALUE, Long.MIN_VALUE, 0);
+        bytesAre(STEPS, "fffffffffffffffc 0000000000000000 00", -4);
+        bytesAre(STEPS, "0000000000000004 0000000000000003 00", 4, 7, 10);
+
+        ColumnForms x = columnOf(PLAIN, -1, -1, -1, -1);
+        x.clear();
+        x.put(0);
+        x.put(1);
+        x.writeAs(PACKED);
+        dueText("no bits of the column before", hex(x), "0000000000000000" + "01" + "40");
+    }
+
+    private static void formAndSize() {
+        ColumnForms x = new ColumnForms();
+        x.put(3);
+        due("8 none before the first write", x.form(), ColumnForms.NONE);
+        due("9 none before the first write", x.size(), 0);
+        x.write();
+        due("8 form", x.form(), PLAIN);
+        due("9 size", x.size(), 8);
+        x.put(3);
+        due("9 the row is not the column", x.size(), 8);
+        x.write();
+        due("8 form of the later column", x.form(), PACKED);
+        due("9 size of the later column", x.size(), 9);
+    }
+
+    private static void byteAt() {
+        ColumnForms x = columnOf(PLAIN, 0x80ff7f0102030405L);
+        int[] want = {0x80, 0xff, 0x7f, 1, 2, 3, 4, 5};
+        for (int i = 0; i < 8; i++) {
+            due("10 byte " + i, x.byteAt(i), want[i]);
+        }
+        refused("10 behind the last", ARGUMENT, () -> x.byteAt(8));
+        refused("10 -1", ARGUMENT, () -> x.byteAt(-1));
+        refused("10 least", ARGUMENT, () -> x.byteAt(Integer.MIN_VALUE));
+        refused("10 greatest", ARGUMENT, () -> x.byteAt(Integer.MAX_VALUE));
+        x.fill(0, 1, 3);
+        x.writeAs(RUNS);
+        due("10 last of the longer column", x.byteAt(41), 1);
+        x.writeAs(PLAIN);
+        refused("10 a byte of the longer column before", ARGUMENT, () -> x.byteAt(32));
+    }
+
+    private static void cell() {
+        long[][] rows = {
+            {0}, {Long.MIN_VALUE}, {-1, -1, -1}, {Long.MIN_VALUE, Long.MAX_VALUE, 0, -1, 1, Long.MAX_VALUE},
+            {7, 7, 3, 3, 3, 7, -9, 12, 12}, {1, 2, 4, 8, 16, 32, 64, 128, 1L << 40}, {100, 90, 80, 70, 61},
+        };
+        for (long[] cells : rows) {
+            for (int form = 0; form < 5; form++) {
+                ColumnForms x = columnOf(form, cells);
+                x.clear();
+                x.fill(55, 5, 20);
+                for (int i = 0; i < cells.length; i++) {
+                    due("11 cell " + i + " in form " + form + " of " + Arrays.toString(cells), x.cell(i), cells[i]);
+                }
+                refused("11 behind the last", ARGUMENT, () -> x.cell(cells.length));
+                refused("11 -1", ARGUMENT, () -> x.cell(-1));
+                refused("11 least", ARGUMENT, () -> x.cell(Integer.MIN_VALUE));
+                refused("11 greatest", ARGUMENT, () -> x.cell(Integer.MAX_VALUE));
+            }
+        }
+    }
+
+    private static void count() {
+        long least = Long.MIN_VALUE;
+        long greatest = Long.MAX_VALUE;
+        long[][] asked = {
+            {0, 3, 2}, {0, 4, 0}, {0, -5, 2}, {1, 3, 3}, {1, least, 0}, {1, greatest, 7}, {2, 3, 2}, {2, greatest, 0},
+            {2, least, 7}, {3, 0, 7}, {3, 3, 5}, {3, 8, 3}, {3, -1, 0}, {3, least, 2},
+        };
+        for (int form = 0; form < 5; form++) {
+            ColumnForms x = columnOf(form, -5, 0, 3, 3, 7, -5, 12);
+            x.put(3);
+            for (long[] a : asked) {
+                due("12 count(" + a[0] + ", " + a[1] + ") in form " + form, x.count((int) a[0], a[1]), a[2]);
+            }
+            refused("12 kind -1", ARGUMENT, () -> x.count(-1, 0));
+            refused("12 kind 4", ARGUMENT, () -> x.count(4, 0));
+            refused("12 kind greatest", ARGUMENT, () -> x.count(Integer.MAX_VALUE, 0));
+        }
+        refused("12 no column", STATE, () -> rowOf(1).count(0, 1));
+        refused("12 no column and kind 4", ARGUMENT, () -> rowOf(1).count(4, 1));
+    }
+
+    private static void sum() {
+        long least = Long.MIN_VALUE;
+        long greatest = Long.MAX_VALUE;
+        long[][] asked = {
+            {-5, 3, -4}, {3, 3, 6}, {4, 3, 0}, {greatest, least, 0}, {least, greatest, 15}, {12, 12, 12}, {13, greatest, 0},
+            {least, -5, -10}, {-4, 2, 0}, {4, greatest, 19},
+        };
+        for (int form = 0; form < 5; form++) {
+            ColumnForms x = columnOf(form, -5, 0, 3, 3, 7, -5, 12);
+            x.put(3);
+            for (long[] a : asked) {
+                due("13 sum(" + a[0] + ", " + a[1] + ") in form " + form, x.sum(a[0], a[1]), a[2]);
+            }
+            due("13 wraps in form " + form, columnOf(form, greatest, greatest, greatest).sum(0, greatest), greatest - 2);
+            due("13 extremes in form " + form, columnOf(form, least, greatest, least).sum(least, greatest), greatest);
+        }
+        refused("13 no column", STATE, () -> rowOf(1).sum(0, 1));
+    }
+
+    private static void throwingChangesNothing() {
+        ColumnForms x = new ColumnForms();
+        x.fill(3, 2, 1000);
+        x.writeAs(PACKED);
+        String before = hex(x);
+        refused("fill, state", STATE, () -> x.fill(9, 9, 25));
+        refused("fill, argument", ARGUMENT, () -> x.fill(9, 9, 0));
+        refused("weight", ARGUMENT, () -> x.weight(7));
+        refused("writeAs", ARGUMENT, () -> x.writeAs(7));
+        refused("byteAt", ARGUMENT, () -> x.byteAt(-7));
+        refused("cell", ARGUMENT, () -> x.cell(1000));
+        refused("count", ARGUMENT, () -> x.count(7, 7));
+        dueText("the column stays", hex(x), before);
+        due("the form stays", x.form(), PACKED);
+        x.writeAs(PACKED);
+        dueText("the row stays", hex(x), before);
+        due("the row's length stays", x.clear(), 1000);
+        refused("write", STATE, () -> x.write());
+        refused("writeAs, state", STATE, () -> x.writeAs(0));
+        dueText("the column stays behind a write of no row", hex(x), before);
+    }
+}
