@@ -176,6 +176,15 @@ public final class PromiseTests {
         due("4 nothing of the earlier row weighs, list", x.weight(LIST), 19);
         due("4 nothing of the earlier row weighs, runs", x.weight(RUNS), 22);
         due("4 nothing of the earlier row weighs, steps", x.weight(STEPS), 17);
+        x.clear();
+        x.put(9);
+        x.put(4);
+        x.writeAs(LIST);
+        dueText("4 nothing of the earlier row is listed", hex(x), "0002" + "0000000000000009" + "0000000000000004" + "40");
+        x.clear();
+        x.put(9);
+        x.writeAs(STEPS);
+        dueText("4 no step of the earlier row is left", hex(x), "0000000000000009" + "0000000000000000" + "00");
     }
 
     private static void weighs(String what, ColumnForms x, int... weights) {
