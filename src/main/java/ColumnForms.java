@@ -158,15 +158,9 @@ public final class ColumnForms {
 
     /**
      * The cells, and all that a weight depends on. It is kept up to date with each cell that comes,
-     * so that no call has to search or sort the row.
+     * so that no call has to go through or sort the row for it.
      */
     private static final class Row {
-        private static final int SLOT_BITS = 11;
-        // Twice as many as cells: a search for a free slot always finds one, and soon.
-        private static final int SLOTS = 1 << SLOT_BITS;
-        // 2^64 divided by the golden ratio: spreads cells that lie close together.
-        private static final long SPREAD = 0x9E3779B97F4A7C15L;
-
         int length;
         int different;
         int runs;
@@ -175,24 +169,33 @@ public final class ColumnForms {
         long leastStep;
         long greatestStep;
         private final long[] cells = new long[MOST_CELLS];
-        private final int[] places = new int[MOST_CELLS];
-        // For each different cell where it stands first, plus 1; 0 is a free slot.
-        private final int[] slots = new int[SLOTS];
+        // Each different cell once, the least first.
+        private final long[] rising = new long[MOST_CELLS];
 
         long at(int i) {
             return i >= 0 && i < length ? cells[i] : 0;
         }
 
-        /** The place of cell i among the different cells, in the order in which they came. */
-        int placeAt(int i) {
-            return i >= 0 && i < length ? places[i] : 0;
+        /** The different cell at a place among them; they stand in the order of whole numbers. */
+        long differentAt(int place) {
+            return place >= 0 && place < different ? rising[place] : 0;
+        }
+
+        /** How many of the different cells are less than v: the place of v, if it is one of them. */
+        int placeOf(long v) {
+            int place = 0;
+            for (int jump = MOST_CELLS; jump > 0; jump >>= 1) {
+                if (place + jump <= different && differentAt(place + jump - 1) < v) {
+                    place += jump;
+                }
+            }
+            return place;
         }
 
         void empty() {
             length = 0;
             different = 0;
             runs = 0;
-            Arrays.fill(slots, 0);
         }
 
         void add(long v) {
@@ -204,7 +207,7 @@ public final class ColumnForms {
             } else {
                 noteNext(v, v - at(length - 1));
             }
-            places[length] = findPlace(v);
+            noteDifferent(v, placeOf(v));
             cells[length] = v;
             length++;
         }
@@ -228,21 +231,14 @@ public final class ColumnForms {
             greatestStep = length == 1 ? step : Math.max(greatestStep, step);
         }
 
-        private int findPlace(long v) {
-            int start = (int) ((v * SPREAD) >>> (64 - SLOT_BITS));
-            for (int tries = 0; tries < SLOTS; tries++) {
-                int slot = (start + tries) & (SLOTS - 1);
-                int first = slots[slot] - 1;
-                if (first < 0) {
-                    slots[slot] = length + 1;
-                    different++;
-                    return different - 1;
-                }
-                if (at(first) == v) {
-                    return placeAt(first);
-                }
+        private void noteDifferent(long v, int place) {
+            boolean known = place < different && differentAt(place) == v;
+            if (known || place < 0 || place > different || different >= MOST_CELLS) {
+                return;
             }
-            return 0;
+            System.arraycopy(rising, place, rising, place + 1, different - place);
+            rising[place] = v;
+            different++;
         }
     }
 
@@ -435,17 +431,12 @@ public final class ColumnForms {
 
         void lay(Row row, Bytes out) {
             out.append(row.different, HEAD);
-            int listed = 0;
-            for (int i = 0; i < row.length; i++) {
-                // Places are given in the order of coming: the next one is a cell's first.
-                if (row.placeAt(i) == listed) {
-                    out.append(row.at(i), 64);
-                    listed++;
-                }
+            for (int place = 0; place < row.different; place++) {
+                out.append(row.differentAt(place), 64);
             }
             int width = bits(row.different - 1);
             for (int i = 0; i < row.length; i++) {
-                out.append(row.placeAt(i), width);
+                out.append(row.placeOf(row.at(i)), width);
             }
         }
 

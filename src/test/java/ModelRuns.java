@@ -1,8 +1,8 @@
 import java.math.BigInteger;
 import java.util.ArrayList;
-import java.util.LinkedHashSet;
 import java.util.List;
 import java.util.Random;
+import java.util.TreeSet;
 
 /** Runs of calls, always the same, whose answers are compared with those of a slow and plain model. */
 public final class ModelRuns {
@@ -53,7 +53,7 @@ public final class ModelRuns {
         }
 
         String listed() {
-            List<Long> different = new ArrayList<>(new LinkedHashSet<>(row));
+            List<Long> different = new ArrayList<>(new TreeSet<>(row));
             List<Long> places = new ArrayList<>();
             for (long v : row) {
                 places.add((long) different.indexOf(v));

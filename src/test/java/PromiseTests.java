@@ -180,7 +180,7 @@ public final class PromiseTests {
         x.put(9);
         x.put(4);
         x.writeAs(LIST);
-        dueText("4 nothing of the earlier row is listed", hex(x), "0002" + "0000000000000009" + "0000000000000004" + "40");
+        dueText("4 nothing of the earlier row is listed", hex(x), "0002" + "0000000000000004" + "0000000000000009" + "80");
         x.clear();
         x.put(9);
         x.writeAs(STEPS);
@@ -281,7 +281,10 @@ public final class PromiseTests {
         bytesAre(PACKED, "8000000000000000 40 0000000000000000 ffffffffffffffff", Long.MIN_VALUE, Long.MAX_VALUE);
         bytesAre(PACKED, "0000000000000000 3f 0000000000000001 0000000000000000", 0, 1L << 62);
         bytesAre(PACKED, "fffffffffffffffd 00", -3, -3, -3);
-        bytesAre(LIST, "0003 0000000000000009 0000000000000005 0000000000000007 1840", 9, 5, 7, 9, 5);
+        bytesAre(LIST, "0003 0000000000000005 0000000000000007 0000000000000009 8600", 9, 5, 7, 9, 5);
+        bytesAre(LIST, "0002 fffffffffffffffd 0000000000000005 a0", 5, -3, 5);
+        bytesAre(LIST, "0004 8000000000000000 ffffffffffffffff 0000000000000000 7fffffffffffffff b1",
+                0, Long.MAX_VALUE, Long.MIN_VALUE, -1);
         bytesAre(LIST, "0001 ffffffffffffffff", -1, -1, -1);
         bytesAre(RUNS, "0003 0000000000000001 0002 0000000000000002 0001 0000000000000001 0001", 1, 1, 2, 1);
         bytesAre(STEPS, "0000000000000003 fffffffffffffffe 02 30", 3, 1, 2);
@@ -290,12 +293,29 @@ public final class PromiseTests {
         bytesAre(STEPS, "fffffffffffffffc 0000000000000000 00", -4);
         bytesAre(STEPS, "0000000000000004 0000000000000003 00", 4, 7, 10);
 
+        fullListOfFallingCells();
         ColumnForms x = columnOf(PLAIN, -1, -1, -1, -1);
         x.clear();
         x.put(0);
         x.put(1);
         x.writeAs(PACKED);
         dueText("no bits of the column before", hex(x), "0000000000000000" + "01" + "40");
+    }
+
+    private static void fullListOfFallingCells() {
+        ColumnForms x = new ColumnForms();
+        x.fill(511, -1, 1024);
+        x.writeAs(LIST);
+        StringBuilder listed = new StringBuilder("0400");
+        StringBuilder places = new StringBuilder();
+        for (int i = 0; i < 1024; i++) {
+            listed.append(String.format("%016x", i - 512L));
+            places.append(Integer.toBinaryString(1024 + 1023 - i).substring(1));
+        }
+        for (int bit = 0; bit < places.length(); bit += 8) {
+            listed.append(String.format("%02x", Integer.parseInt(places.substring(bit, bit + 8), 2)));
+        }
+        dueText("a full list of falling cells", hex(x), listed.toString());
     }
 
     private static void formAndSize() {
