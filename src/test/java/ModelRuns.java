@@ -7,7 +7,10 @@ import java.util.TreeSet;
 /** Runs of calls, always the same, whose answers are compared with those of a slow and plain model. */
 public final class ModelRuns {
     private static final int RUNS = 600;
-    private static final int CALLS = 511;
+    // Each so many runs one is never cleared and gets many cells at once, so that its row becomes full.
+    private static final int FULL_EVERY = 6;
+    // Behind the last of these nothing is promised.
+    private static final int CALLS = 512;
 
     private static int wrong = 0;
 
@@ -227,10 +230,10 @@ public final class ModelRuns {
         }
     }
 
-    private static int small(Random random, int call, Model model) {
+    private static int small(Random random, int call, Model model, boolean toFull) {
         boolean off = random.nextInt(20) == 0;
         switch (call) {
-            case 1: return off ? random.nextInt(1100) : random.nextInt(40);
+            case 1: return off ? random.nextInt(1100) : random.nextInt(toFull ? 200 : 40);
             case 3:
             case 5: return off ? random.nextInt(9) - 2 : random.nextInt(5);
             case 8: return off ? random.nextInt(11000) - 10 : random.nextInt(model.bits.length() / 8 + 1);
@@ -244,12 +247,14 @@ public final class ModelRuns {
         ColumnForms x = new ColumnForms();
         Model model = new Model();
         int flavour = random.nextInt(5);
+        boolean toFull = run % FULL_EVERY == 0;
         for (int i = 0; i < CALLS; i++) {
             int call = Character.digit(OFTEN.charAt(random.nextInt(OFTEN.length())), 16);
+            call = toFull && call == 2 ? 1 : call;
             List<Long> known = model.column == null ? model.row : model.column;
             long a = number(random, flavour, known);
             long b = call == 1 && random.nextInt(2) == 0 ? random.nextInt(3) - 1 : number(random, flavour, known);
-            int n = small(random, call, model);
+            int n = small(random, call, model, toFull);
             String want;
             String got;
             try {

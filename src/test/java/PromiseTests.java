@@ -6,96 +6,24 @@ import java.util.Arrays;
 import java.util.Set;
 import java.util.TreeSet;
 
-/** For each promise of the document: ordinary inputs, the edges that it names, and wrong inputs. */
-public final class PromiseTests {
-    private static final int PLAIN = 0;
-    private static final int PACKED = 1;
-    private static final int LIST = 2;
-    private static final int RUNS = 3;
-    private static final int STEPS = 4;
-    private static final String ARGUMENT = "IllegalArgumentException";
-    private static final String STATE = "IllegalStateException";
-
-    private static int wrong = 0;
-
-    private interface Call {
-        long answer();
-    }
-
-    private static void due(String what, long got, long want) {
-        if (got != want) {
-            wrong++;
-            System.out.println(what + ": answered " + got + ", due is " + want);
-        }
-    }
-
-    private static void dueText(String what, String got, String want) {
-        if (!got.equals(want)) {
-            wrong++;
-            System.out.println(what + ": answered " + got + ", due is " + want);
-        }
-    }
-
-    private static void refused(String what, String exception, Call call) {
-        String got;
-        try {
-            got = "" + call.answer();
-        } catch (RuntimeException e) {
-            got = e.getClass().getSimpleName();
-        }
-        dueText(what, got, exception);
-    }
-
-    private static ColumnForms rowOf(long... cells) {
-        ColumnForms x = new ColumnForms();
-        for (long v : cells) {
-            x.put(v);
-        }
-        return x;
-    }
-
-    private static ColumnForms columnOf(int form, long... cells) {
-        ColumnForms x = rowOf(cells);
-        x.writeAs(form);
-        return x;
-    }
-
-    private static String hex(ColumnForms x) {
-        StringBuilder text = new StringBuilder();
-        for (int i = 0; i < x.size(); i++) {
-            text.append(String.format("%02x", x.byteAt(i)));
-        }
-        return text.toString();
-    }
-
-    /** The cells that a row holds, seen through a plain column. */
-    private static void rowIs(String what, ColumnForms x, long... cells) {
-        due(what + ", bytes", x.writeAs(PLAIN), 8L * cells.length);
-        for (int i = 0; i < cells.length; i++) {
-            due(what + ", cell " + i, x.cell(i), cells[i]);
-        }
-    }
-
+/** The face of the class, and for each promise ordinary inputs, some edges, and wrong inputs. */
+public final class PromiseTests extends Check {
     public static void main(String[] args) {
-        face();
-        newObject();
-        put();
-        fill();
-        clear();
-        weight();
-        write();
-        writeAs();
-        bytesOfEachForm();
-        formAndSize();
-        byteAt();
-        cell();
-        count();
-        sum();
-        throwingChangesNothing();
-        if (wrong > 0) {
-            System.out.println(wrong + " wrong answers");
-            System.exit(1);
-        }
+        test(PromiseTests::face);
+        test(PromiseTests::newObject);
+        test(PromiseTests::put);
+        test(PromiseTests::fill);
+        test(PromiseTests::clear);
+        test(PromiseTests::weight);
+        test(PromiseTests::write);
+        test(PromiseTests::writeAs);
+        test(PromiseTests::bytesOfEachForm);
+        test(PromiseTests::formAndSize);
+        test(PromiseTests::byteAt);
+        test(PromiseTests::cell);
+        test(PromiseTests::count);
+        test(PromiseTests::sum);
+        end();
     }
 
     private static void face() {
@@ -123,7 +51,7 @@ public final class PromiseTests {
     }
 
     private static void newObject() {
-        ColumnForms x = new ColumnForms();
+        Counted x = new Counted();
         due("1 form", x.form(), -1);
         due("1 size", x.size(), 0);
         refused("1 byteAt", ARGUMENT, () -> x.byteAt(0));
@@ -135,10 +63,11 @@ public final class PromiseTests {
     }
 
     private static void put() {
-        ColumnForms x = new ColumnForms();
-        for (int i = 1; i <= 1024; i++) {
+        Counted x = new Counted();
+        for (int i = 1; i <= 300; i++) {
             due("2 put", x.put(i * 3L), i);
         }
+        due("2 put behind fill", x.fill(5, 1, 723) + x.put(1), 1023 + 1024);
         refused("2 put into a full row", STATE, () -> x.put(0));
         due("2 clear of a full row", x.clear(), 1024);
         due("2 put behind clear", x.put(7), 1);
@@ -146,7 +75,7 @@ public final class PromiseTests {
     }
 
     private static void fill() {
-        ColumnForms x = new ColumnForms();
+        Counted x = new Counted();
         due("3 fill", x.fill(10, -4, 3), 3);
         due("3 fill of one", x.fill(1, 99, 1), 4);
         due("3 fill that wraps", x.fill(Long.MAX_VALUE, 1, 2), 6);
@@ -160,11 +89,11 @@ public final class PromiseTests {
         due("3 up to full", x.fill(1, 1, 1018), 1024);
         refused("3 full", STATE, () -> x.fill(1, 1, 1));
         refused("3 full and n 0", ARGUMENT, () -> x.fill(1, 1, 0));
-        due("3 1024 at once", new ColumnForms().fill(0, 0, 1024), 1024);
+        due("3 1024 at once", new Counted().fill(0, 0, 1024), 1024);
     }
 
     private static void clear() {
-        ColumnForms x = columnOf(PACKED, 4, 9, 4);
+        Counted x = columnOf(PACKED, 4, 9, 4);
         due("4 clear", x.clear(), 3);
         due("4 clear again", x.clear(), 0);
         due("4 the column's form stays", x.form(), PACKED);
@@ -187,7 +116,7 @@ public final class PromiseTests {
         dueText("4 no step of the earlier row is left", hex(x), "0000000000000009" + "0000000000000000" + "00");
     }
 
-    private static void weighs(String what, ColumnForms x, int... weights) {
+    private static void weighs(String what, Counted x, int... weights) {
         for (int form = 0; form < 5; form++) {
             due("5 " + what + " in form " + form, x.weight(form), weights[form]);
         }
@@ -203,10 +132,10 @@ public final class PromiseTests {
         weighs("steps beyond a byte", rowOf(0, 1, 0, 1, 0, 1, 0, 1, 0, 1), 80, 11, 20, 102, 20);
         weighs("four different", rowOf(1, 2, 3, 4), 32, 10, 35, 42, 17);
         weighs("five different", rowOf(1, 2, 3, 4, 5), 40, 11, 44, 52, 17);
-        ColumnForms full = new ColumnForms();
+        Counted full = new Counted();
         full.fill(0, 1, 1024);
         weighs("1024 different", full, 8192, 1289, 9474, 10242, 17);
-        ColumnForms x = rowOf(1);
+        Counted x = rowOf(1);
         refused("5 form 5", ARGUMENT, () -> x.weight(5));
         refused("5 form -1", ARGUMENT, () -> x.weight(-1));
         refused("5 form greatest", ARGUMENT, () -> x.weight(Integer.MAX_VALUE));
@@ -215,14 +144,14 @@ public final class PromiseTests {
         refused("5 empty and form 5", ARGUMENT, () -> x.weight(5));
     }
 
-    private static void writes(String what, ColumnForms x, int form, int bytes) {
+    private static void writes(String what, Counted x, int form, int bytes) {
         due("6 " + what + ", bytes", x.write(), bytes);
         due("6 " + what + ", form", x.form(), form);
         due("6 " + what + ", size", x.size(), bytes);
     }
 
-    private static ColumnForms twoBlocks(long first, long second, int n) {
-        ColumnForms x = new ColumnForms();
+    private static Counted twoBlocks(long first, long second, int n) {
+        Counted x = new Counted();
         x.fill(first, 0, n);
         x.fill(second, 0, n);
         return x;
@@ -234,7 +163,7 @@ public final class PromiseTests {
         writes("packed", rowOf(5, 5, 5, 9), PACKED, 11);
         writes("list", rowOf(0, big, 0, big, 0, big), LIST, 19);
         writes("runs", twoBlocks(0, big, 500), RUNS, 22);
-        ColumnForms rising = new ColumnForms();
+        Counted rising = new Counted();
         rising.fill(0, 1000, 100);
         writes("steps", rising, STEPS, 17);
         due("6 the row stays", rising.put(1), 101);
@@ -243,14 +172,14 @@ public final class PromiseTests {
         writes("packed and steps alike", rowOf(0, 700000, 1400000), PACKED, 17);
         writes("list and runs alike", twoBlocks(0, big, 16), LIST, 22);
         writes("the row with one cell more", rising, PACKED, 224);
-        ColumnForms x = columnOf(PLAIN, 1);
+        Counted x = columnOf(PLAIN, 1);
         x.clear();
         refused("6 empty", STATE, () -> x.write());
         due("6 the column is as it was", x.form(), PLAIN);
     }
 
     private static void writeAs() {
-        ColumnForms x = rowOf(5, 5, 5, 9);
+        Counted x = rowOf(5, 5, 5, 9);
         int[] weights = {32, 11, 19, 22, 19};
         for (int form = 4; form >= 0; form--) {
             due("7 writeAs " + form, x.writeAs(form), weights[form]);
@@ -294,7 +223,7 @@ public final class PromiseTests {
         bytesAre(STEPS, "0000000000000004 0000000000000003 00", 4, 7, 10);
 
         fullListOfFallingCells();
-        ColumnForms x = columnOf(PLAIN, -1, -1, -1, -1);
+        Counted x = columnOf(PLAIN, -1, -1, -1, -1);
         x.clear();
         x.put(0);
         x.put(1);
@@ -303,9 +232,6 @@ public final class PromiseTests {
     }
 
     private static void fullListOfFallingCells() {
-        ColumnForms x = new ColumnForms();
-        x.fill(511, -1, 1024);
-        x.writeAs(LIST);
         StringBuilder listed = new StringBuilder("0400");
         StringBuilder places = new StringBuilder();
         for (int i = 0; i < 1024; i++) {
@@ -315,11 +241,11 @@ public final class PromiseTests {
         for (int bit = 0; bit < places.length(); bit += 8) {
             listed.append(String.format("%02x", Integer.parseInt(places.substring(bit, bit + 8), 2)));
         }
-        dueText("a full list of falling cells", hex(x), listed.toString());
+        dueText("a full list of falling cells", hex(() -> filledColumn(LIST, 511, -1, 1024)), listed.toString());
     }
 
     private static void formAndSize() {
-        ColumnForms x = new ColumnForms();
+        Counted x = new Counted();
         x.put(3);
         due("8 none before the first write", x.form(), ColumnForms.NONE);
         due("9 none before the first write", x.size(), 0);
@@ -334,7 +260,7 @@ public final class PromiseTests {
     }
 
     private static void byteAt() {
-        ColumnForms x = columnOf(PLAIN, 0x80ff7f0102030405L);
+        Counted x = columnOf(PLAIN, 0x80ff7f0102030405L);
         int[] want = {0x80, 0xff, 0x7f, 1, 2, 3, 4, 5};
         for (int i = 0; i < 8; i++) {
             due("10 byte " + i, x.byteAt(i), want[i]);
@@ -357,7 +283,7 @@ public final class PromiseTests {
         };
         for (long[] cells : rows) {
             for (int form = 0; form < 5; form++) {
-                ColumnForms x = columnOf(form, cells);
+                Counted x = columnOf(form, cells);
                 x.clear();
                 x.fill(55, 5, 20);
                 for (int i = 0; i < cells.length; i++) {
@@ -379,7 +305,7 @@ public final class PromiseTests {
             {2, least, 7}, {3, 0, 7}, {3, 3, 5}, {3, 8, 3}, {3, -1, 0}, {3, least, 2},
         };
         for (int form = 0; form < 5; form++) {
-            ColumnForms x = columnOf(form, -5, 0, 3, 3, 7, -5, 12);
+            Counted x = columnOf(form, -5, 0, 3, 3, 7, -5, 12);
             x.put(3);
             for (long[] a : asked) {
                 due("12 count(" + a[0] + ", " + a[1] + ") in form " + form, x.count((int) a[0], a[1]), a[2]);
@@ -400,7 +326,7 @@ public final class PromiseTests {
             {least, -5, -10}, {-4, 2, 0}, {4, greatest, 19},
         };
         for (int form = 0; form < 5; form++) {
-            ColumnForms x = columnOf(form, -5, 0, 3, 3, 7, -5, 12);
+            Counted x = columnOf(form, -5, 0, 3, 3, 7, -5, 12);
             x.put(3);
             for (long[] a : asked) {
                 due("13 sum(" + a[0] + ", " + a[1] + ") in form " + form, x.sum(a[0], a[1]), a[2]);
@@ -409,27 +335,5 @@ public final class PromiseTests {
             due("13 extremes in form " + form, columnOf(form, least, greatest, least).sum(least, greatest), greatest);
         }
         refused("13 no column", STATE, () -> rowOf(1).sum(0, 1));
-    }
-
-    private static void throwingChangesNothing() {
-        ColumnForms x = new ColumnForms();
-        x.fill(3, 2, 1000);
-        x.writeAs(PACKED);
-        String before = hex(x);
-        refused("fill, state", STATE, () -> x.fill(9, 9, 25));
-        refused("fill, argument", ARGUMENT, () -> x.fill(9, 9, 0));
-        refused("weight", ARGUMENT, () -> x.weight(7));
-        refused("writeAs", ARGUMENT, () -> x.writeAs(7));
-        refused("byteAt", ARGUMENT, () -> x.byteAt(-7));
-        refused("cell", ARGUMENT, () -> x.cell(1000));
-        refused("count", ARGUMENT, () -> x.count(7, 7));
-        dueText("the column stays", hex(x), before);
-        due("the form stays", x.form(), PACKED);
-        x.writeAs(PACKED);
-        dueText("the row stays", hex(x), before);
-        due("the row's length stays", x.clear(), 1000);
-        refused("write", STATE, () -> x.write());
-        refused("writeAs, state", STATE, () -> x.writeAs(0));
-        dueText("the column stays behind a write of no row", hex(x), before);
     }
 }
