@@ -26,28 +26,48 @@ public final class PromiseTests extends Check {
         end();
     }
 
+    private static String names(Class<?>[] types) {
+        StringBuilder text = new StringBuilder();
+        for (Class<?> type : types) {
+            text.append(text.length() == 0 ? "" : ", ").append(type.getSimpleName());
+        }
+        return text.toString();
+    }
+
     private static void face() {
+        about("The public face");
+        String both = " throws " + ARGUMENT + ", " + STATE;
+        Set<String> wanted = new TreeSet<>(Arrays.asList("public int put(long) throws " + STATE,
+                "public int fill(long, long, int)" + both, "public int clear() throws ", "public int weight(int)" + both,
+                "public int write() throws " + STATE, "public int writeAs(int)" + both, "public int form() throws ",
+                "public int size() throws ", "public int byteAt(int) throws " + ARGUMENT,
+                "public long cell(int) throws " + ARGUMENT, "public int count(int, long)" + both,
+                "public long sum(long, long) throws " + STATE));
         Set<String> seen = new TreeSet<>();
         for (Method m : ColumnForms.class.getDeclaredMethods()) {
             if (!Modifier.isPrivate(m.getModifiers())) {
                 seen.add(Modifier.toString(m.getModifiers()) + " " + m.getReturnType() + " " + m.getName()
-                        + Arrays.toString(m.getParameterTypes()));
+                        + "(" + names(m.getParameterTypes()) + ") throws " + names(m.getExceptionTypes()));
             }
         }
-        Set<String> wanted = new TreeSet<>(Arrays.asList("public int put[long]", "public int fill[long, long, int]",
-                "public int clear[]", "public int weight[int]", "public int write[]", "public int writeAs[int]",
-                "public int form[]", "public int size[]", "public int byteAt[int]", "public long cell[int]",
-                "public int count[int, long]", "public long sum[long, long]"));
         dueText("methods", seen.toString(), wanted.toString());
+        Set<String> fields = new TreeSet<>();
         for (Field f : ColumnForms.class.getDeclaredFields()) {
-            boolean open = !Modifier.isPrivate(f.getModifiers());
-            due("field " + f.getName() + " is open", open ? 1 : 0, f.getName().equals("NONE") ? 1 : 0);
+            if (!Modifier.isPrivate(f.getModifiers())) {
+                fields.add(Modifier.toString(f.getModifiers()) + " " + f.getType() + " " + f.getName());
+            }
         }
+        dueText("fields", fields.toString(), "[public static final int NONE]");
+        due("NONE", ColumnForms.NONE, -1);
         Constructor<?>[] made = ColumnForms.class.getDeclaredConstructors();
         due("constructors", made.length, 1);
-        due("parameters of the constructor", made[0].getParameterCount(), 0);
+        dueText("the constructor", Modifier.toString(made[0].getModifiers()) + " (" + names(made[0].getParameterTypes())
+                + ") throws " + names(made[0].getExceptionTypes()), "public () throws ");
         dueText("the class", Modifier.toString(ColumnForms.class.getModifiers()), "public final");
-        due("NONE", ColumnForms.NONE, -1);
+        for (Class<?> inside : ColumnForms.class.getDeclaredClasses()) {
+            int hidden = inside.getModifiers() & (Modifier.PUBLIC | Modifier.PROTECTED | Modifier.STATIC);
+            due("class " + inside.getSimpleName() + " is hidden and static", hidden, Modifier.STATIC);
+        }
     }
 
     private static void newObject() {
